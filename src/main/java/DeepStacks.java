@@ -89,7 +89,7 @@ public final class DeepStacks {
             throw new IllegalArgumentException();
         }
         long place = machine.placeAt(path, n);
-        if (Value.sortOf(place) == Value.PAIR) {
+        if (Value.isPair(place)) {
             throw new ClassCastException();
         }
         if (Value.sortOf(place) != Value.NUMBER) {
@@ -149,30 +149,33 @@ public final class DeepStacks {
         static final int EMPTY = 0, CAST = 1, ZERO = 2, RAISED = 3, DEEP = 4, FULL_OF_PAIRS = 5;
         static final int ANY = 9;
 
-        static int ofSort(long value, int wanted) {
+        static int ofParts(int kind, long a, long b) {
+            switch (kind) {
+                case Kind.PLUS:
+                case Kind.MINUS:
+                case Kind.TIMES:
+                case Kind.DIVIDED:
+                case Kind.BELOW:
+                    int first = ofSort(a, Value.NUMBER);
+                    return first != NO_FAULT ? first : ofSort(b, Value.NUMBER);
+                case Kind.CHOICE:
+                case Kind.RAISE:
+                case Kind.NOTED:
+                    return ofSort(a, Value.NUMBER);
+                case Kind.HEAD:
+                case Kind.TAIL:
+                    return ofSort(a, Value.PAIR);
+                default:
+                    return NO_FAULT;
+            }
+        }
+
+        private static int ofSort(long value, int wanted) {
             int found = Value.sortOf(value);
             if (found == wanted) {
                 return NO_FAULT;
             }
             return found == Value.NOTHING ? EMPTY : CAST;
-        }
-
-        static int ofNumbers(long a, long b) {
-            int first = ofSort(a, Value.NUMBER);
-            return first != NO_FAULT ? first : ofSort(b, Value.NUMBER);
-        }
-
-        static int ofDivision(long a, long b) {
-            int first = ofNumbers(a, b);
-            if (first != NO_FAULT) {
-                return first;
-            }
-            return Value.numberOf(b) == 0 ? ZERO : NO_FAULT;
-        }
-
-        static int ofRaising(long a) {
-            int first = ofSort(a, Value.NUMBER);
-            return first != NO_FAULT ? first : RAISED;
         }
     }
 
@@ -191,6 +194,10 @@ public final class DeepStacks {
 
         static int sortOf(long value) {
             return (int) (value >> HALF);
+        }
+
+        static boolean isPair(long value) {
+            return (int) (value >> HALF) == PAIR;
         }
 
         static int numberOf(long value) {
@@ -249,11 +256,11 @@ public final class DeepStacks {
         }
 
         long headOf(long value) {
-            return isPair(value) ? heads[Value.numberOf(value)] : Value.NO_PLACE;
+            return Value.isPair(value) ? heads[Value.numberOf(value)] : Value.NO_PLACE;
         }
 
         long tailOf(long value) {
-            return isPair(value) ? tails[Value.numberOf(value)] : Value.NO_PLACE;
+            return Value.isPair(value) ? tails[Value.numberOf(value)] : Value.NO_PLACE;
         }
 
         long placeBehind(long value, long path, int n) {
@@ -268,15 +275,11 @@ public final class DeepStacks {
         int countAlongTails(long value) {
             int count = 0;
             long place = value;
-            while (count < PAIRS_MOST && isPair(place)) {
+            while (count < PAIRS_MOST && Value.isPair(place)) {
                 place = tailOf(place);
                 count++;
             }
             return count;
-        }
-
-        private boolean isPair(long value) {
-            return Value.sortOf(value) == Value.PAIR;
         }
     }
 
@@ -457,12 +460,6 @@ public final class DeepStacks {
         long second;
         int fault;
         int raised;
-
-        void start(int begunExpression, boolean inLastPlace) {
-            expression = begunExpression;
-            last = inLastPlace;
-            begun = 0;
-        }
     }
 
     /**
@@ -542,7 +539,10 @@ public final class DeepStacks {
             calls.enter(x, y);
             begin(body, true);
             for (int turn = 0; turn < TURNS_MOST && open > 0; turn++) {
-                advance(frames[open - 1]);
+                Frame frame = frames[open - 1];
+                if (frame.begun > 0 || mayStep()) {
+                    advance(frame);
+                }
             }
             outcome = spent ? SPENT : fault + 1;
             if (outcome != 0) {
@@ -559,21 +559,22 @@ public final class DeepStacks {
             steps = 0;
             spent = false;
             fault = Fault.NO_FAULT;
-            raised = 0;
         }
 
         private void begin(int expression, boolean last) {
-            if (mayStep() && open < FRAMES_MOST) {
-                frames[open].start(expression, last);
+            if (open < FRAMES_MOST) {
+                Frame frame = frames[open];
+                frame.expression = expression;
+                frame.last = last;
+                frame.begun = 0;
                 open++;
             }
         }
 
         /** A frame that only waits for its LAST PLACE is given up to it: so that takes no room. */
         private void become(Frame frame, int expression) {
-            if (mayStep()) {
-                frame.start(expression, frame.last);
-            }
+            open--;
+            begin(expression, frame.last);
         }
 
         private boolean mayStep() {
@@ -654,7 +655,7 @@ public final class DeepStacks {
             if (!hasParts(frame, 1)) {
                 return;
             }
-            int wrong = Fault.ofSort(frame.first, Value.NUMBER);
+            int wrong = Fault.ofParts(Kind.CHOICE, frame.first, frame.second);
             if (wrong != Fault.NO_FAULT) {
                 fail(wrong);
                 return;
@@ -735,7 +736,10 @@ public final class DeepStacks {
             if (!hasParts(frame, Kind.partCount(kind))) {
                 return;
             }
-            int wrong = faultOf(kind, frame.first, frame.second);
+            int wrong = Fault.ofParts(kind, frame.first, frame.second);
+            if (wrong == Fault.NO_FAULT) {
+                wrong = faultBehindSorts(kind, frame.second);
+            }
             if (wrong == Fault.NO_FAULT) {
                 finish(valueOf(kind, program.detailOf(frame.expression), frame.first, frame.second));
                 return;
@@ -746,18 +750,11 @@ public final class DeepStacks {
             fail(wrong);
         }
 
-        private int faultOf(int kind, long a, long b) {
+        private int faultBehindSorts(int kind, long b) {
             switch (kind) {
-                case Kind.PLUS:
-                case Kind.MINUS:
-                case Kind.TIMES:
-                case Kind.BELOW: return Fault.ofNumbers(a, b);
-                case Kind.DIVIDED: return Fault.ofDivision(a, b);
+                case Kind.DIVIDED: return Value.numberOf(b) == 0 ? Fault.ZERO : Fault.NO_FAULT;
+                case Kind.RAISE: return Fault.RAISED;
                 case Kind.PAIR: return pairs.isFull() ? Fault.FULL_OF_PAIRS : Fault.NO_FAULT;
-                case Kind.HEAD:
-                case Kind.TAIL: return Fault.ofSort(a, Value.PAIR);
-                case Kind.RAISE: return Fault.ofRaising(a);
-                case Kind.NOTED: return Fault.ofSort(a, Value.NUMBER);
                 default: return Fault.NO_FAULT;
             }
         }
@@ -770,10 +767,10 @@ public final class DeepStacks {
                 case Kind.HEAD: return pairs.headOf(a);
                 case Kind.TAIL: return pairs.tailOf(a);
                 case Kind.NOTHING: return Value.OF_NOTHING;
-                case Kind.IS_PAIR: return Value.ofTruth(Value.sortOf(a) == Value.PAIR);
+                case Kind.IS_PAIR: return Value.ofTruth(Value.isPair(a));
                 case Kind.LIKE: return Value.ofTruth(a == b);
                 case Kind.NOTED: return notedValue(a);
-                default: return reckoned(kind, Value.numberOf(a), Value.numberOf(b));
+                default: return Value.ofNumber(reckoned(kind, Value.numberOf(a), Value.numberOf(b)));
             }
         }
 
@@ -782,13 +779,13 @@ public final class DeepStacks {
             return value;
         }
 
-        private static long reckoned(int kind, int a, int b) {
+        private static int reckoned(int kind, int a, int b) {
             switch (kind) {
-                case Kind.PLUS: return Value.ofNumber(a + b);
-                case Kind.MINUS: return Value.ofNumber(a - b);
-                case Kind.TIMES: return Value.ofNumber(a * b);
-                case Kind.DIVIDED: return Value.ofNumber(b == 0 ? 0 : a / b);
-                default: return Value.ofTruth(a < b);
+                case Kind.PLUS: return a + b;
+                case Kind.MINUS: return a - b;
+                case Kind.TIMES: return a * b;
+                case Kind.DIVIDED: return b == 0 ? 0 : a / b;
+                default: return a < b ? 1 : 0;
             }
         }
     }

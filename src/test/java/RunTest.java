@@ -17,6 +17,7 @@ final class RunTest {
         lastPlaces(check);
         argumentsOfCalls(check);
         roomGivenBack(check);
+        deepestWork(check);
         spentRuns(check);
         fullOfPairs(check);
         fullOfFailures(check);
@@ -323,6 +324,27 @@ final class RunTest {
         dueNumber(check, w, often, 0);
         check.due("told(2)", w.x.told(2), 2);
         check.due("told(5)", w.x.told(5), 5);
+    }
+
+    /** As many EXPRESSIONS are being worked at once as ROOM and HEIGHT let there be. */
+    private static void deepestWork(Check check) {
+        Writer w = new Writer();
+        int zero = w.number(0);
+        w.x.room(20);
+        int deepest = w.call(0, zero, zero);
+        int caught = w.caught(deepest, w.noted(zero), Writer.DEEP);
+        for (int i = 0; i < 6; i++) {
+            deepest = w.lastly(deepest, zero);
+        }
+        dueFault(check, w, deepest, Writer.DEEP);
+        check.due("told(1)", w.x.told(1), 20 * 15);
+        check.due("told(2)", w.x.told(2), 20);
+        for (int i = 0; i < 5; i++) {
+            caught = w.isPair(caught);
+        }
+        dueNumber(check, w, caught, 0);
+        check.due("told(1)", w.x.told(1), 20 * 9 + 2);
+        check.due("told(4)", w.x.told(4), 1);
     }
 
     private static void spentRuns(Check check) {
