@@ -2,6 +2,11 @@
 final class Writer {
     static final int EMPTY = 0, CAST = 1, ZERO = 2, RAISED = 3, DEEP = 4, FULL = 5, ANY = 9;
 
+    /** Makes an EXPRESSION by a writer that is made later than it is told. */
+    interface Made {
+        int by(Writer w);
+    }
+
     final DeepStacks x = new DeepStacks();
 
     int number(int n) { return added(0, n, 0, 0); }
