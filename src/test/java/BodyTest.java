@@ -15,6 +15,7 @@ final class BodyTest {
             check.due(of + ", 0) behind refusals", x.body(function, 0), 1);
         }
         workedBody(check, x);
+        eachFunctionHasItsOwn(check);
         check.end();
     }
 
@@ -35,5 +36,20 @@ final class BodyTest {
         check.due("number(0, 0) of the latest RUN", x.number(0L, 0), 22);
         x.run(3, 0, 0);
         check.due("number(0, 0)", x.number(0L, 0), 11);
+    }
+
+    private static void eachFunctionHasItsOwn(Check check) {
+        DeepStacks x = new DeepStacks();
+        for (int function = 0; function <= 5; function++) {
+            check.due("run(" + function + ", 0, 0)", x.run(function, 0, 0), DeepStacks.UNKNOWN);
+            check.due("expression", x.expression(0, 100 + function, 0, 0), function);
+            check.due("body(" + function + ", ..)", x.body(function, function), DeepStacks.NONE);
+            for (int called = 0; called <= function; called++) {
+                check.due("run(" + called + ", 0, 0)", x.run(called, 0, 0), 0);
+                check.due("number(0, 0)", x.number(0L, 0), 100 + called);
+            }
+        }
+        check.due("run(6, 0, 0)", x.run(6, 0, 0), DeepStacks.UNKNOWN);
+        check.due("run(-1, 0, 0)", x.run(-1, 0, 0), DeepStacks.UNKNOWN);
     }
 }

@@ -9,6 +9,7 @@ final class ExpressionTest {
         Check check = new Check();
         for (int kind = 0; kind < PARTS.length; kind++) {
             partsOfKind(check, kind);
+            heightsOfKind(check, kind);
         }
         numbersThatAreNoParts(check);
         kindsOutside(check);
@@ -43,6 +44,29 @@ final class ExpressionTest {
             }
         }
         check.due("height(" + count + ") behind refusals", x.height(count), UNKNOWN);
+    }
+
+    /** One part of HEIGHT 7 is the last that is in order; what is no part may name any. */
+    private static void heightsOfKind(Check check, int kind) {
+        for (int place = 0; place < 3; place++) {
+            DeepStacks x = new DeepStacks();
+            due(check, x, new int[] {12, 0, 0, 0}, 0);
+            due(check, x, new int[] {12, 0, 0, 0}, 1);
+            for (int i = 2; i <= 8; i++) {
+                due(check, x, new int[] {13, i - 1, 0, 0}, i);
+            }
+            boolean isPart = (PARTS[kind] >> place & 1) == 1;
+            if (!isPart && (kind == 1 || kind == 8 || kind == 15)) {
+                continue;
+            }
+            int[] given = {kind, 1, 1, 1};
+            given[place + 1] = 8;
+            due(check, x, given, isPart ? DeepStacks.FULL : 9);
+            given[place + 1] = 7;
+            due(check, x, given, isPart ? 9 : 10);
+            int own = PARTS[kind] == 0 ? 1 : 2;
+            check.due("height of kind " + kind, x.height(isPart ? 9 : 10), isPart ? 8 : own);
+        }
     }
 
     private static void numbersThatAreNoParts(Check check) {

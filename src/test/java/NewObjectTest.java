@@ -10,9 +10,7 @@ final class NewObjectTest {
 
     private static void answersOfANewObject(Check check) {
         DeepStacks x = new DeepStacks();
-        for (int what = 0; what <= 8; what++) {
-            check.due("told(" + what + ")", x.told(what), what == 7 ? 10 : 0);
-        }
+        nothingTold(check, x, 10);
         for (int function = -1; function <= 6; function++) {
             check.due("run(" + function + ", 1, 2)", x.run(function, 1, 2), DeepStacks.UNKNOWN);
             check.due("body(" + function + ", 0)", x.body(function, 0), DeepStacks.UNKNOWN);
@@ -25,7 +23,24 @@ final class NewObjectTest {
         check.dueNoNote(x, 0);
         check.dueNoNumber(x, 0L, 0, NullPointerException.class);
         check.dueNoNumber(x, 0L, -1, IllegalArgumentException.class);
-        check.due("told(0)", x.told(0), 0);
+        nothingTold(check, x, 10);
+        x.room(20);
+        nothingTold(check, x, 20);
+        x.room(21);
+        x.expression(12, 0, 0, 0);
+        x.body(0, 0);
+        x.run(1, 3, 4);
+        nothingTold(check, x, 20);
+    }
+
+    /** "Of the latest RUN (0 before any)"; but there is a ROOM from the first. */
+    private static void nothingTold(Check check, DeepStacks x, int room) {
+        int[] want = {0, 0, 0, 0, 0, 0, 0, room, 0};
+        for (int what = 0; what <= 8; what++) {
+            check.due("told(" + what + ") before any RUN", x.told(what), want[what]);
+        }
+        check.due("told(-1)", x.told(-1), DeepStacks.OUTSIDE);
+        check.due("told(9)", x.told(9), DeepStacks.OUTSIDE);
     }
 
     private static void firstChangesOfANewObject(Check check) {

@@ -9,6 +9,7 @@ final class RunTest {
         truths(check);
         wantedSorts(check);
         firstFaultCounts(check);
+        fromLeftToRight(check);
         choices(check);
         likeness(check);
         catching(check);
@@ -26,6 +27,7 @@ final class RunTest {
 
     private static void due(Check check, Writer w, int expression, int want) {
         check.due("run of expression " + expression, w.runOf(expression, 6, 3), want);
+        check.due("told(0) of expression " + expression, w.x.told(0), want);
     }
 
     private static void dueFault(Check check, Writer w, int expression, int fault) {
@@ -132,6 +134,28 @@ final class RunTest {
         check.due("told(8) counts no part that was left out", w.x.told(8), 6);
     }
 
+    private static void fromLeftToRight(Check check) {
+        for (int kind : new int[] {2, 3, 4, 5, 6, 9, 14, 16}) {
+            Writer w = new Writer();
+            int left = w.noted(w.number(1));
+            int right = w.noted(w.number(2));
+            dueOrder(check, w, w.x.expression(kind, left, right, 0));
+        }
+        Writer w = new Writer();
+        int left = w.noted(w.number(1));
+        int right = w.noted(w.number(2));
+        dueOrder(check, w, w.isPair(w.call(2, left, right)));
+        dueOrder(check, w, w.choice(left, right, left));
+        dueOrder(check, w, w.caught(w.raise(left), right, Writer.ANY));
+    }
+
+    private static void dueOrder(Check check, Writer w, int expression) {
+        w.runOf(expression, 0, 0);
+        check.due("told(4) of expression " + expression, w.x.told(4), 2);
+        check.due("note(1) of expression " + expression, w.x.note(1), 1);
+        check.due("note(0) of expression " + expression, w.x.note(0), 2);
+    }
+
     private static void choices(Check check) {
         Writer w = new Writer();
         int good = w.number(42);
@@ -141,6 +165,12 @@ final class RunTest {
         dueNumber(check, w, w.choice(w.number(0), bad, good), 42);
         dueFault(check, w, w.choice(w.number(0), good, bad), Writer.EMPTY);
         check.due("told(1)", w.x.told(1), 4);
+        int nothing = w.nothing();
+        int pair = w.pair(nothing, nothing);
+        due(check, w, w.choice(good, nothing, pair), 0);
+        check.due("sort(0, 0): of b no NUMBER is wanted", w.x.sort(0L, 0), 0);
+        due(check, w, w.choice(w.number(0), nothing, pair), 0);
+        check.due("sort(0, 0): of c no NUMBER is wanted", w.x.sort(0L, 0), 2);
     }
 
     private static void likeness(Check check) {
