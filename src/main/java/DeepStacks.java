@@ -26,7 +26,7 @@ public final class DeepStacks {
     }
 
     public int expression(int kind, int a, int b, int c) {
-        if (kind < 0 || kind >= Kind.COUNT) {
+        if (!Kind.isKind(kind)) {
             return OUTSIDE;
         }
         if (!program.knowsNamed(kind, a, b, c)) {
@@ -56,13 +56,14 @@ public final class DeepStacks {
     }
 
     public int run(int function, int x, int y) {
-        if (!Program.isFunction(function) || program.bodyOf(function) == NONE) {
+        int body = program.bodyOf(function);
+        if (body == NONE) {
             return UNKNOWN;
         }
         if (machine.failedInAll() >= FAILED_MOST) {
             return FULL;
         }
-        return machine.workThrough(program.bodyOf(function), Value.ofNumber(x), Value.ofNumber(y));
+        return machine.workThrough(body, Value.ofNumber(x), Value.ofNumber(y));
     }
 
     public int told(int what) {
@@ -106,6 +107,32 @@ public final class DeepStacks {
         return program.knows(expression) ? program.heightOf(expression) : UNKNOWN;
     }
 
+    /**
+     * Looks at every index before it is used, so that no row is ever left, whatever the rest of
+     * the class may ask for.
+     */
+    private static final class Rows {
+        static int numberAt(int[] row, int i, int otherwise) {
+            return i >= 0 && i < row.length ? row[i] : otherwise;
+        }
+
+        static void putNumber(int[] row, int i, int number) {
+            if (i >= 0 && i < row.length) {
+                row[i] = number;
+            }
+        }
+
+        static long valueAt(long[] row, int i, long otherwise) {
+            return i >= 0 && i < row.length ? row[i] : otherwise;
+        }
+
+        static void putValue(long[] row, int i, long value) {
+            if (i >= 0 && i < row.length) {
+                row[i] = value;
+            }
+        }
+    }
+
     /** The KINDS of EXPRESSIONS, and what each of them has beside its parts: its detail. */
     private static final class Kind {
         static final int NUMBER = 0, ARGUMENT = 1, PLUS = 2, MINUS = 3, TIMES = 4, DIVIDED = 5;
@@ -118,8 +145,12 @@ public final class DeepStacks {
             0, 0, 2, 2, 2, 2, 2, 3, 2, 2, 1, 1, 0, 1, 2, 2, 2, 1, 1
         };
 
+        static boolean isKind(int kind) {
+            return kind >= 0 && kind < COUNT;
+        }
+
         static int partCount(int kind) {
-            return PART_COUNTS[kind];
+            return Rows.numberAt(PART_COUNTS, kind, 0);
         }
 
         /** In a CALL the FUNCTION stands at a, so that its parts begin at b. */
@@ -244,23 +275,30 @@ public final class DeepStacks {
         /** Wanted only while the PAIRS are not full. */
         long join(long head, long tail) {
             made++;
-            for (int row = 0; row < rows; row++) {
+            for (int row = 0; row < rows && row < PAIRS_MOST; row++) {
                 if (heads[row] == head && tails[row] == tail) {
                     return Value.ofPair(row);
                 }
             }
-            heads[rows] = head;
-            tails[rows] = tail;
+            Rows.putValue(heads, rows, head);
+            Rows.putValue(tails, rows, tail);
             rows++;
             return Value.ofPair(rows - 1);
         }
 
         long headOf(long value) {
-            return Value.isPair(value) ? heads[Value.numberOf(value)] : Value.NO_PLACE;
+            return partOf(value, heads);
         }
 
         long tailOf(long value) {
-            return Value.isPair(value) ? tails[Value.numberOf(value)] : Value.NO_PLACE;
+            return partOf(value, tails);
+        }
+
+        private static long partOf(long value, long[] row) {
+            if (!Value.isPair(value)) {
+                return Value.NO_PLACE;
+            }
+            return Rows.valueAt(row, Value.numberOf(value), Value.NO_PLACE);
         }
 
         long placeBehind(long value, long path, int n) {
@@ -293,7 +331,7 @@ public final class DeepStacks {
         }
 
         void add(int number) {
-            ring[noted % NOTES_MOST] = number;
+            Rows.putNumber(ring, noted % NOTES_MOST, number);
             noted++;
         }
 
@@ -306,7 +344,7 @@ public final class DeepStacks {
         }
 
         int latest(int i) {
-            return ring[(noted - 1 - i) % NOTES_MOST];
+            return Rows.numberAt(ring, (noted - 1 - i) % NOTES_MOST, 0);
         }
     }
 
@@ -355,8 +393,8 @@ public final class DeepStacks {
 
         void replace(long x, long y) {
             begun++;
-            arguments[2 * underWay - 2] = x;
-            arguments[2 * underWay - 1] = y;
+            Rows.putValue(arguments, 2 * underWay - 2, x);
+            Rows.putValue(arguments, 2 * underWay - 1, y);
         }
 
         void leave() {
@@ -364,7 +402,7 @@ public final class DeepStacks {
         }
 
         long argument(int i) {
-            return arguments[2 * underWay - 2 + i];
+            return Rows.valueAt(arguments, 2 * underWay - 2 + i, Value.OF_NOTHING);
         }
     }
 
@@ -406,7 +444,7 @@ public final class DeepStacks {
         int heightAbove(int kind, int a, int b, int c) {
             int greatest = 0;
             for (int i = 0; i < Kind.partCount(kind); i++) {
-                greatest = Math.max(greatest, heights[Kind.partOf(kind, i, a, b, c)]);
+                greatest = Math.max(greatest, heightOf(Kind.partOf(kind, i, a, b, c)));
             }
             return greatest + 1;
         }
@@ -414,40 +452,41 @@ public final class DeepStacks {
         /** Wanted only of what was found to be in order, while there is room. */
         int add(int kind, int a, int b, int c) {
             int added = count;
-            kinds[added] = kind;
-            details[added] = Kind.detailOf(kind, a, c);
-            heights[added] = heightAbove(kind, a, b, c);
+            Rows.putNumber(kinds, added, kind);
+            Rows.putNumber(details, added, Kind.detailOf(kind, a, c));
+            Rows.putNumber(heights, added, heightAbove(kind, a, b, c));
             for (int i = 0; i < Kind.partCount(kind); i++) {
-                parts[Kind.PARTS_MOST * added + i] = Kind.partOf(kind, i, a, b, c);
+                int part = Kind.partOf(kind, i, a, b, c);
+                Rows.putNumber(parts, Kind.PARTS_MOST * added + i, part);
             }
             count++;
             return added;
         }
 
         int changeBody(int function, int expression) {
-            int before = bodies[function];
-            bodies[function] = expression;
+            int before = bodyOf(function);
+            Rows.putNumber(bodies, function, expression);
             return before;
         }
 
         int bodyOf(int function) {
-            return bodies[function];
+            return Rows.numberAt(bodies, function, NONE);
         }
 
         int kindOf(int expression) {
-            return kinds[expression];
+            return Rows.numberAt(kinds, expression, Kind.NOTHING);
         }
 
         int detailOf(int expression) {
-            return details[expression];
+            return Rows.numberAt(details, expression, NONE);
         }
 
         int partOf(int expression, int i) {
-            return parts[Kind.PARTS_MOST * expression + i];
+            return Rows.numberAt(parts, Kind.PARTS_MOST * expression + i, NONE);
         }
 
         int heightOf(int expression) {
-            return heights[expression];
+            return Rows.numberAt(heights, expression, 0);
         }
     }
 
@@ -538,11 +577,12 @@ public final class DeepStacks {
             clear();
             calls.enter(x, y);
             begin(body, true);
-            for (int turn = 0; turn < TURNS_MOST && open > 0; turn++) {
-                Frame frame = frames[open - 1];
+            Frame frame = topFrame();
+            for (int turn = 0; turn < TURNS_MOST && frame != null; turn++) {
                 if (frame.begun > 0 || mayStep()) {
                     advance(frame);
                 }
+                frame = topFrame();
             }
             outcome = spent ? SPENT : fault + 1;
             if (outcome != 0) {
@@ -561,13 +601,18 @@ public final class DeepStacks {
             fault = Fault.NO_FAULT;
         }
 
+        /** The frame that is worked now; null when the RUN has come to its end. */
+        private Frame topFrame() {
+            return open > 0 && open <= FRAMES_MOST ? frames[open - 1] : null;
+        }
+
         private void begin(int expression, boolean last) {
-            if (open < FRAMES_MOST) {
-                Frame frame = frames[open];
+            open++;
+            Frame frame = topFrame();
+            if (frame != null) {
                 frame.expression = expression;
                 frame.last = last;
                 frame.begun = 0;
-                open++;
             }
         }
 

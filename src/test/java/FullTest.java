@@ -6,6 +6,7 @@ final class FullTest {
     public static void main(String[] args) {
         Check check = new Check();
         hundredPairs(check);
+        hundredPairsApart(check);
         pairsLetGoCount(check);
         fullBehindItsParts(check);
         failuresThatGoOn(check);
@@ -54,6 +55,20 @@ final class FullTest {
         due(check, three, 1 + Writer.FULL, 100, 1);
         check.due("length()", three.x.length(), 0);
         due(check, three, 1 + Writer.FULL, 100, 2);
+    }
+
+    /** No two of the 100 are LIKE, in this RUN or the others; each is told as it was made. */
+    private static void hundredPairsApart(Check check) {
+        Writer w = round(v -> v.pair(v.argument(1), v.pair(v.number(7), v.argument(0))));
+        for (int run = 1; run <= 5; run++) {
+            check.due("run(0, ..)", w.x.run(0, run, -run), 0);
+            check.due("told(3)", w.x.told(3), 100);
+            check.due("length()", w.x.length(), 100);
+            check.due("number at the first HEAD", w.x.number(0L, 1), run);
+            check.due("number at the 60th HEAD", w.x.number((1L << 59) - 1, 60), run);
+        }
+        Writer three = round(v -> v.pair(v.argument(1), v.pair(v.number(7), v.pair(v.number(8), v.number(9)))));
+        check.due("run(0, 1, 2)", three.x.run(0, 1, 2), 1 + Writer.FULL);
     }
 
     /**

@@ -19,12 +19,29 @@ final class LengthTest {
         check.due("length() behind a refused RUN", w.x.length(), 2);
         due(check, w, w.call(0, heads, heads), 0);
         likePairs(check);
+        pairsOfManyRuns(check);
         check.end();
     }
 
     private static void due(Check check, Writer w, int expression, int want) {
         w.runOf(expression, 0, 0);
         check.due("length() of expression " + expression, w.x.length(), want);
+    }
+
+    /** The PAIRS of a RUN are its own: those of the RUNS before take nothing from them. */
+    private static void pairsOfManyRuns(Check check) {
+        Writer w = new Writer();
+        int top = w.argument(1);
+        for (int i = 0; i < 7; i++) {
+            top = w.pair(w.argument(0), top);
+        }
+        for (int run = 0; run < 40; run++) {
+            w.runOf(top, run, -run);
+            check.due("length() of RUN " + run, w.x.length(), 7);
+            check.due("sort behind 7 TAILS", w.x.sort(127L, 7), 1);
+            check.due("number behind 7 TAILS", w.x.number(127L, 7), -run);
+            check.due("number at the last HEAD", w.x.number(63L, 7), run);
+        }
     }
 
     /** PAIRS of which many are LIKE are counted one by one all the same. */

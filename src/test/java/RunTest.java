@@ -245,6 +245,11 @@ final class RunTest {
         dueNumber(check, w, w.caught(inner, caught, Writer.RAISED), 77);
         dueFault(check, w, w.caught(inner, caught, Writer.ZERO), Writer.RAISED);
         dueNumber(check, w, w.plus(w.caught(failing[0], caught, Writer.ANY), caught), 154);
+        dueNumber(check, w, w.plus(w.caught(w.number(5), failing[0], Writer.ANY), caught), 82);
+        int through = w.caught(failing[2], caught, Writer.RAISED);
+        dueFault(check, w, w.plus(through, failing[0]), Writer.ZERO);
+        dueFault(check, w, w.lastly(through, w.noted(caught)), Writer.ZERO);
+        check.due("note(0)", w.x.note(0), 77);
     }
 
     private static void doneInAnyCase(Check check) {
