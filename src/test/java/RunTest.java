@@ -171,6 +171,11 @@ final class RunTest {
         check.due("sort(0, 0): of b no NUMBER is wanted", w.x.sort(0L, 0), 0);
         due(check, w, w.choice(w.number(0), nothing, pair), 0);
         check.due("sort(0, 0): of c no NUMBER is wanted", w.x.sort(0L, 0), 2);
+        int noted = w.noted(good);
+        for (int wrong : new int[] {nothing, w.pair(good, good)}) {
+            dueFault(check, w, w.choice(wrong, noted, noted), wrong == nothing ? Writer.EMPTY : Writer.CAST);
+            check.due("told(4): neither b nor c is worked", w.x.told(4), 0);
+        }
     }
 
     private static void likeness(Check check) {
@@ -290,6 +295,9 @@ final class RunTest {
         dueFault(check, w, w.plus(w.call(5, noted, noted), noted), Writer.EMPTY);
         w.x.body(5, noted);
         dueFault(check, w, w.plus(w.call(5, noted, noted), noted), Writer.DEEP);
+        check.due("told(4): b, c are worked before it is too deep", w.x.told(4), 2);
+        dueFault(check, w, w.plus(w.call(5, noted, w.raise(noted)), noted), Writer.RAISED);
+        dueFault(check, w, w.plus(w.call(5, w.raise(noted), noted), noted), Writer.RAISED);
         dueNumber(check, w, w.call(5, noted, noted), 4);
     }
 
